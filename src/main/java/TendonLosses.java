@@ -398,7 +398,7 @@ public final class TendonLosses {
         }
 
         boolean isBetweenPieces(int point) {
-            return isWithin(point, 1, size - 2);
+            return point > 0 && point < size - 1;
         }
 
         int widthOf(int piece) {

@@ -34,6 +34,18 @@ public final class Promise06PullTest {
         Bridges.dueForces(checks, bridge, bent, 999, 950, 855, 855);
         bridge.pull(bent, 1, 1000);
         Bridges.dueForces(checks, bridge, bent, 1000, 950, 855, 855);
+        // 333,667 * 27 * 111 is 999,999,999, one too little; so is 1,001 * 27 * 37 for a turn.
+        bridge.friction(27, 27);
+        int other = Bridges.add(bridge, 500, 0, 0, 111, 0, 1111, 37);
+        bridge.pull(other, 1, 1001);
+        Bridges.dueForces(checks, bridge, other, 1001, 1001, 1001);
+        bridge.pull(other, 1, 1002);
+        Bridges.dueForces(checks, bridge, other, 1002, 1001, 1001);
+        int straight = Bridges.add(bridge, 500, 0, 0, 111, 0);
+        bridge.pull(straight, 1, 333_667);
+        Bridges.dueForces(checks, bridge, straight, 333_667, 333_667);
+        bridge.pull(straight, 1, 333_668);
+        Bridges.dueForces(checks, bridge, straight, 333_668, 333_667);
     }
 
     private static void notBelowZero(Checks checks) {

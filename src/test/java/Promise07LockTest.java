@@ -8,6 +8,7 @@ public final class Promise07LockTest {
         slipAtBothEnds(checks);
         slipThatTakesAll(checks);
         slipStopsWhereNothingIsLeft(checks);
+        slipStopsWhereForcesAreEqual(checks);
         shorterIsTheDifferenceOfLonger(checks);
         earlierOnesLose(checks);
         checks.finish();
@@ -87,6 +88,20 @@ public final class Promise07LockTest {
         bridge.pull(steep, 3, 1_000_000);
         bridge.lock(steep);
         Bridges.dueForces(checks, bridge, steep, 993_500, 0, 993_500);
+    }
+
+    private static void slipStopsWhereForcesAreEqual(Checks checks) {
+        TendonLosses bridge = new TendonLosses();
+        bridge.friction(1000, 0);
+        int row = Bridges.add(bridge, 50, 0, 0, 10_000, 0, 20_000, 0);
+        bridge.pull(row, 3, 1_000_000);
+        Bridges.dueForces(checks, bridge, row, 1_000_000, 990_000, 1_000_000);
+        bridge.friction(0, 0);
+        // 10,000 newtons less at the anchor are 5,128.2 micrometres; behind the point between nothing
+        // changes, though the forces go up again there.
+        bridge.losses(5128, 0, 0);
+        checks.due("lock", bridge.lock(row), 10_256);
+        Bridges.dueForces(checks, bridge, row, 990_000, 990_000, 990_000);
     }
 
     /** Pieces are cut off one by one, so that sums of differences would not be the difference. */

@@ -39,5 +39,12 @@ public final class Promise09DaysTest {
         bridge.days(1000);
         // From 999 on a thousandth is cut off to nothing.
         Bridges.dueForces(checks, bridge, 0, 999, 999);
+        bridge.cut(0);
+        // 37,037 * 27 is 999,999, one too little.
+        bridge.losses(0, 0, 27);
+        bridge.pull(0, 1, 37_038);
+        bridge.lock(0);
+        bridge.days(3);
+        Bridges.dueForces(checks, bridge, 0, 37_037, 37_037);
     }
 }
