@@ -1,3 +1,5 @@
+import java.util.List;
+
 /** Promise 1: what a new object is. The numbers that hold at first stand in 'Terms'. */
 public final class Promise01NewObjectTest {
     public static void main(String[] args) {
@@ -31,13 +33,14 @@ public final class Promise01NewObjectTest {
     }
 
     private static void objectsAreApart(Checks checks) {
+        List<String> before = Fingerprint.of(withOneTendon());
         TendonLosses used = Bridges.full();
         checks.due("count(0) of a used one", used.count(0), 6);
         used.days(5);
         used.friction(0, 0);
         used.losses(20_000, 100, 1000);
         nothingIsThere(checks);
-        checks.due("a new one behind a used one", Fingerprint.of(withOneTendon()), Fingerprint.of(withOneTendon()));
+        checks.due("a new one behind a used one", Fingerprint.of(withOneTendon()), before);
         TendonLosses fresh = withOneTendon();
         fresh.pull(0, 1, 1_000_000);
         Bridges.dueForces(checks, fresh, 0, 1_000_000, 979_996, 940_793, 940_789);

@@ -22,6 +22,10 @@ public final class SentencesTest {
             Pattern.compile("\\.sentence\\(\\s*((?:\"[^\"]*\"\\s*\\+?\\s*)+)\\)");
 
     public static void main(String[] args) throws IOException {
+        if (!Files.exists(DOCUMENT)) {
+            System.out.println("not looked at: there is no " + DOCUMENT);
+            return;
+        }
         Checks checks = new Checks();
         Map<String, String> sections = sections(Files.readString(DOCUMENT));
         checks.due("promises that the document has", sections.keySet().stream()

@@ -192,7 +192,8 @@ public final class TermsSlipTest {
     }
 
     private static void beginningFirst(Checks checks) {
-        checks.sentence("(X is found for the beginning first; then, from the forces that are there then, for the end.)");
+        checks.sentence("(X is found for the beginning first; then, from the forces that are there then,"
+                + " for the end.)");
         TendonLosses bridge = Bridges.plain();
         // The second slip starts from what the first one left: 980,500 at both points.
         dueLock(checks, bridge, 3, 1_000_000, 1000, 2000, 961_000, 961_000);
