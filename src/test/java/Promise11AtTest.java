@@ -100,5 +100,16 @@ public final class Promise11AtTest {
         Refusals refusals = new Refusals(checks, Bridges::mixed);
         refusals.bad("before a pulled one", b -> b.at(1, -1));
         refusals.bad("behind a pulled one", b -> b.at(1, 3001));
+        outsideOfTenPoints(checks);
+    }
+
+    /** With ten points there is no room behind the last one that a search could run into unseen. */
+    private static void outsideOfTenPoints(Checks checks) {
+        int[] outside = {-1, 9001, 100_000, Bridges.LEAST_INT, Bridges.MOST_INT};
+        for (int x : outside) {
+            checks.due("at(1, " + x + ") of ten points", Bridges.full().at(1, x), TendonLosses.BAD);
+            checks.due("at(5, " + x + ") of ten points", Bridges.full().at(5, x), TendonLosses.BAD);
+        }
+        checks.due("at the last of ten points", Bridges.full().at(1, 9000), Bridges.full().force(1, 9));
     }
 }
