@@ -1,13 +1,23 @@
+import java.io.IOException;
 import java.lang.reflect.Constructor;
 import java.lang.reflect.Field;
 import java.lang.reflect.Method;
 import java.lang.reflect.Modifier;
+import java.nio.file.Files;
+import java.nio.file.Path;
 import java.util.Arrays;
+import java.util.List;
 import java.util.Set;
 import java.util.TreeSet;
+import java.util.stream.Collectors;
 
-/** The public face is the document's, and nothing else of the class can be seen. */
+/**
+ * The public face is the document's, and nothing else of the class can be seen. It is run from the
+ * project's folder.
+ */
 public final class FaceTest {
+    private static final Path DOCUMENT = Path.of("../shared/DOC.md");
+    private static final Path SOURCE = Path.of("src/main/java/TendonLosses.java");
     private static final Set<String> FACE = new TreeSet<>(Arrays.asList(
             "int tendon(int)", "int point(int, int, int)", "boolean friction(int, int)",
             "boolean losses(int, int, int)", "int pull(int, int, int)", "int lock(int)",
@@ -16,7 +26,7 @@ public final class FaceTest {
             "boolean clash(int, int, int)", "int locked(int)", "int wanted(int, int, int, int)",
             "int count(int)"));
 
-    public static void main(String[] args) {
+    public static void main(String[] args) throws IOException {
         Checks checks = new Checks();
         Class<?> face = TendonLosses.class;
         int modifiers = face.getModifiers();
@@ -37,7 +47,24 @@ public final class FaceTest {
             checks.due("static " + inside, Modifier.isStatic(inside.getModifiers()), true);
             checks.due("public " + inside, Modifier.isPublic(inside.getModifiers()), false);
         }
+        lines(checks);
         checks.finish();
+    }
+
+    /** Every public line of the document's face stands in the class with the same words, and no other. */
+    private static void lines(Checks checks) throws IOException {
+        if (!Files.exists(DOCUMENT)) {
+            System.out.println("lines not looked at: there is no " + DOCUMENT);
+            return;
+        }
+        List<String> due = publicLines(DOCUMENT);
+        checks.due("public lines of the document", due.size(), 20);
+        checks.due("public lines", publicLines(SOURCE), due);
+    }
+
+    private static List<String> publicLines(Path file) throws IOException {
+        return Files.readAllLines(file).stream().map(String::trim).filter(line -> line.startsWith("public "))
+                .map(line -> line.replaceFirst("( \\{|;)$", "")).sorted().collect(Collectors.toList());
     }
 
     private static void methods(Checks checks, Class<?> face) {

@@ -59,6 +59,12 @@ public final class Promise15ClashTest {
         // At 100 it is - 20 2/3.
         dueBothWays(checks, below, 20, false);
         dueBothWays(checks, below, 21, true);
+        TendonLosses under = new TendonLosses();
+        Bridges.add(under, 500, 0, 530, 100, 30, 200, 530);
+        Bridges.add(under, 500, 0, 20, 300, 22);
+        // At 100 it is 9 1/3, which would be 10 if the 20 2/3 of the second one were cut off.
+        dueBothWays(checks, under, 9, false);
+        dueBothWays(checks, under, 10, true);
     }
 
     private static void crossing(Checks checks) {
@@ -68,6 +74,12 @@ public final class Promise15ClashTest {
         Bridges.add(bridge, 500, 0, 3000, 200, -3000);
         dueBothWays(checks, bridge, 0, false);
         dueBothWays(checks, bridge, 1, true);
+        TendonLosses steep = new TendonLosses();
+        // They cross at 50 1/2; at 50 and at 51 they are 59 mm apart.
+        Bridges.add(steep, 500, 0, -3000, 101, 3000);
+        Bridges.add(steep, 500, 0, 3000, 101, -3000);
+        dueBothWays(checks, steep, 0, false);
+        dueBothWays(checks, steep, 1, true);
     }
 
     private static void greatest(Checks checks) {

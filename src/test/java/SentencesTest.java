@@ -12,7 +12,8 @@ import java.util.stream.Stream;
 
 /**
  * The words that the tests name stand in the document, and together they are all that it says under
- * 'Terms' and under each promise: no sentence is without a test. It is run from the project's folder.
+ * 'What it is', 'Terms' and each promise: no sentence is without a test. (FaceTest looks at 'The public
+ * face'.) It is run from the project's folder.
  */
 public final class SentencesTest {
     private static final Path DOCUMENT = Path.of("../shared/DOC.md");
@@ -35,10 +36,14 @@ public final class SentencesTest {
             checks.due("the document has the section " + entry.getKey(), sections.containsKey(entry.getKey()), true);
         }
         for (Map.Entry<String, String> section : sections.entrySet()) {
-            boolean isWhole = section.getKey().equals("Terms") || section.getKey().startsWith("Promise ");
-            look(checks, section.getKey(), section.getValue(), named.get(section.getKey()), isWhole);
+            String title = section.getKey();
+            look(checks, title, section.getValue(), named.get(title), mustBeTestedWhole(title));
         }
         checks.finish();
+    }
+
+    private static boolean mustBeTestedWhole(String title) {
+        return title.equals("What it is") || title.equals("Terms") || title.startsWith("Promise ");
     }
 
     /** The sections of the document by their titles, without the signature that a promise begins with. */
